@@ -726,7 +726,8 @@ public final class BatchCellars {
             }
             Stage first = recipe.stageAt(0);
             int number = lowestFreeNumber();
-            if (first == null || !vessel.canTake(first.kind, mass) || number == NONE) {
+            if (first == null || !vessel.canTake(first.kind, mass)
+                    || !isWithin(number, 0, batches.length - 1)) {
                 return NOT_POSSIBLE;
             }
             int begins = time + occupy(vessel, number, recipe.product);
