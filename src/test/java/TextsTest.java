@@ -240,6 +240,11 @@ public final class TextsTest {
         Due.due("26: no more", x.fault(1), 3);
         x.undo();
         Due.due("26: again", x.fault(1), NONE);
+        Due.retype(x, "q;");
+        Due.due("26: a fault", x.fault(1), 1);
+        x.clearText();
+        Due.due("26: none when it is emptied", x.fault(1), NONE);
+        Due.due("27: no commands when it is emptied", x.play(), 0);
         StringBuilder full = new StringBuilder();
         for (int i = 0; i < 20; i++) {
             full.append("t01;");
