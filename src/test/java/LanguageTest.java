@@ -22,10 +22,18 @@ public final class LanguageTest {
     private static final String FORBIDDEN = "\\b(throw|throws|try|catch|synchronized|assert|import"
             + "|package|protected|native|volatile|transient|var|record|Exact)\\b|->|::|Exact\\(";
 
+    private static final String[][] HEADINGS = {
+        {"recipes, vessels, lines", "recipe", "stage", "vessel", "line", "cleaning", "stageOf"},
+        {"batches", "begin", "move", "end", "discard", "blend", "pass", "set"},
+        {"what there is", "batchOf", "vesselOf", "lineOf", "count"},
+        {"what could be", "targets", "quickest", "soonest", "urgent", "undo"},
+        {"texts", "type", "clearText", "fault", "play"}};
+
     public static void main(String[] args) throws IOException {
         face();
         names();
         words();
+        headings();
         Due.close();
     }
 
@@ -92,5 +100,20 @@ public final class LanguageTest {
         Due.due("forbidden words", found, 0);
         boolean plain = text.chars().allMatch(sign -> sign == '\n' || sign >= 32 && sign < 127);
         Due.due("plain signs", plain ? 1 : 0, 1);
+    }
+
+    /** The calls stand in the order of the document, under its headings. */
+    private static void headings() throws IOException {
+        String text = Files.readString(Path.of("src/main/java/BatchCellars.java"));
+        int place = 0;
+        for (String[] heading : HEADINGS) {
+            for (int i = 0; i < heading.length; i++) {
+                String line = i == 0 ? "    // ---- " + heading[0] + "\n"
+                        : "    public int " + heading[i] + "(";
+                int found = text.indexOf(line, place);
+                Due.due(line.strip() + " in its order", found > 0 ? 1 : 0, 1);
+                place = Math.max(place, found);
+            }
+        }
     }
 }

@@ -54,7 +54,7 @@ public final class RunsTest {
             int got = make(after, call);
             Due.due(place + ", " + Arrays.toString(call), got, expected);
             if (got < 0) {
-                same(place + ", an error changes nothing", told(at(calls)), told(after));
+                Told.same(place + ", an error changes nothing", Told.by(at(calls)), Told.by(after));
             } else {
                 good[call[0]]++;
                 followed(place + ", behind " + Arrays.toString(call), before, call, got, after);
@@ -63,7 +63,7 @@ public final class RunsTest {
             if (got >= 0 && call[0] == UNDO) {
                 states--;
                 kept.remove(kept.size() - 1);
-                same(place + ", undone", plantOf(told(at(kept))), plantOf(told(at(calls))));
+                Told.same(place + ", undone", plantToldBy(at(kept)), plantToldBy(at(calls)));
             } else if (got >= 0) {
                 states = Math.min(4, states + 1);
                 kept.add(call);
@@ -226,58 +226,8 @@ public final class RunsTest {
         return x;
     }
 
-    // ---- all that is told
-
-    private static int[] told(BatchCellars x) {
-        int[] row = new int[300];
-        int n = 0;
-        row[n++] = x.count(11);
-        for (int what = 0; what < 34; what++) {
-            row[n++] = what == 11 ? 0 : x.count(what);
-        }
-        for (int i = 0; i < 4; i++) {
-            for (int stage = 0; stage < 4; stage++) {
-                for (int what = 0; what < 5; what++) {
-                    row[n++] = x.stageOf(i, stage, what);
-                }
-            }
-        }
-        for (int i = 0; i < 6; i++) {
-            for (int what = 0; what < 5; what++) {
-                row[n++] = x.vesselOf(i, what);
-            }
-            for (int what = 0; what < 11; what++) {
-                row[n++] = x.batchOf(i, what);
-            }
-            for (int what = 0; i < 3 && what < 4; what++) {
-                row[n++] = x.lineOf(i, what);
-            }
-            row[n++] = x.targets(i);
-            row[n++] = x.quickest(i, 0);
-            row[n++] = x.quickest(i, 1);
-            row[n++] = x.soonest(i);
-            row[n++] = x.urgent(i);
-        }
-        for (int from = 0; from < 4; from++) {
-            for (int to = 0; to < 4; to++) {
-                row[n++] = x.cleaning(from, to, 0);
-            }
-        }
-        return Arrays.copyOf(row, n);
-    }
-
-    private static int[] plantOf(int[] told) {
-        return Arrays.copyOfRange(told, 1, told.length);
-    }
-
-    private static void same(String place, int[] one, int[] other) {
-        int wrong = 0;
-        for (int i = 0; i < one.length; i++) {
-            if (one[i] != other[i] && wrong++ == 0) {
-                Due.due(place + ": row " + i, other[i], one[i]);
-            }
-        }
-        Due.due(place, wrong, 0);
+    private static int[] plantToldBy(BatchCellars x) {
+        return Told.plantOf(Told.by(x));
     }
 
     // ---- what an answer must be, from what is told before it (by an object that is thrown away
@@ -586,19 +536,19 @@ public final class RunsTest {
         BatchCellars x = at(calls, text.toString());
         Due.due(place + ", place in " + text, x.fault(0), due);
         Due.due(place + ", reason in " + text, x.fault(1), reason);
-        int[] before = told(at(calls, text.toString()));
+        int[] before = Told.by(at(calls, text.toString()));
         Due.due(place + ", play() of " + text, x.play(), due == -4 ? commands : -2);
         if (due == -4) {
             goodTexts += commands > 1 ? 1 : 0;
             BatchCellars y = at(played, text.toString());
-            same(place + ", played " + text, plantOf(told(y)), plantOf(told(x)));
+            Told.same(place + ", played " + text, plantToldBy(y), plantToldBy(x));
             BatchCellars z = at(calls, text.toString());
             z.play();
             z.undo();
             Due.due(place + ", one state", z.count(11), Math.min(3, at(calls).count(11)));
-            same(place + ", unplayed " + text, plantOf(before), plantOf(told(z)));
+            Told.same(place + ", unplayed " + text, Told.plantOf(before), plantToldBy(z));
         } else {
-            same(place + ", not played " + text, before, told(x));
+            Told.same(place + ", not played " + text, before, Told.by(x));
         }
     }
 
