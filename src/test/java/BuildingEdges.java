@@ -273,15 +273,17 @@ final class BuildingEdges extends Edges {
     }
 
     private static BatchCellars recipeOfTwo() {
-        BatchCellars x = recipes(2);
+        BatchCellars x = new BatchCellars();
+        x.recipe(2);
+        x.recipe(3);
         x.stage(1, 2, 200, 499, 500);
-        x.stage(1, 1, 1, 0, 3);
+        x.stage(1, 1, 1, 0, 4);
         return x;
     }
 
     private static void stageOfArguments() {
         by("Promise 7", "Returns something of a stage.");
-        due("stageOf(1, 1, 3)", recipeOfTwo().stageOf(1, 1, 3), 3);
+        due("stageOf(1, 1, 3)", recipeOfTwo().stageOf(1, 1, 3), 4);
         by("Promise 7", "recipe: number of the recipe");
         for (int there = 0; there <= 4; there++) {
             int number = there;
@@ -293,8 +295,8 @@ final class BuildingEdges extends Edges {
         by("Promise 7", "what: 0: its kind of vessel; 1: its work; 2: its least ageing; 3: its"
                 + " greatest one; 4: the product of the recipe");
         BatchCellars x = recipeOfTwo();
-        int[] first = {2, 200, 499, 500, 1};
-        int[] second = {1, 1, 0, 3, 1};
+        int[] first = {2, 200, 499, 500, 3};
+        int[] second = {1, 1, 0, 4, 3};
         for (int what = 0; what < 5; what++) {
             due("stageOf(1, 0, " + what + ")", x.stageOf(1, 0, what), first[what]);
             due("stageOf(1, 1, " + what + ")", x.stageOf(1, 1, what), second[what]);

@@ -37,7 +37,7 @@ final class ChangeEdges extends Edges {
     }
 
     /** Off-grade; batch 0 can move, batch 1 can end, batch 2 can be blended; a text; 4 states. */
-    private static BatchCellars plant() {
+    static BatchCellars plant() {
         BatchCellars x = new BatchCellars();
         x.recipe(1);
         x.stage(0, 0, 1, 2, 20);

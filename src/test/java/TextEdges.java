@@ -1,3 +1,5 @@
+import java.util.function.Supplier;
+
 /** The terms: texts; promises 24 to 27. */
 final class TextEdges extends Edges {
     private static final String TEXTS = "Texts";
@@ -18,6 +20,7 @@ final class TextEdges extends Edges {
         fault();
         faultOfNothing();
         play();
+        playDoesAsCalls();
         playAsOneChange();
         playAnswers();
     }
@@ -150,26 +153,52 @@ final class TextEdges extends Edges {
         by(TEXTS, "\"b\" a recipe \",\" a mass \",\" a vessel (begin), \"m\" a batch \",\" a vessel"
                 + " (move), \"e\" a batch (end), \"x\" a batch (thrown away), \"o\" a batch \",\""
                 + " kilograms (blended), or \"t\" minutes;");
-        String[] texts = {"b1,100,0;", "o0,7;", "t1;", "m0,2;", "t999;", "e0;", "b0,321,1;",
-            "b1,123,0;", "x1;", "t001;", "e0;"};
-        BatchCellars y = plant();
-        StringBuilder ahead = new StringBuilder();
-        for (String text : texts) {
-            ahead.append(text);
-            call(y, text);
-            BatchCellars x = plant(ahead.toString());
-            due("play() of " + ahead, x.play() >= 0 ? 1 : 0, 1);
-            Due.retype(x, "");
-            Told.same("as by the calls of " + ahead, plantToldBy(again(ahead.toString())), plantToldBy(x));
-        }
-        due("made at last", y.count(9), 1);
+        String commands = "b1,100,0;o0,7;t1;m0,2;t999;e0;b0,321,1;b1,123,0;x1;t001;e0;";
+        asByCalls(TextEdges::plant, commands);
     }
 
-    /** The plant on which the calls were made that the commands stand for. */
-    private static BatchCellars again(String commands) {
-        BatchCellars x = plant();
-        for (String command : commands.split(";")) {
-            call(x, command + ";");
+    /** The commands up to each of them do what the calls do, and what comes later is the same. */
+    private static void asByCalls(Supplier<BatchCellars> plant, String commands) {
+        for (int end = 0; end <= commands.length(); end++) {
+            if (end > 0 && commands.charAt(end - 1) != ';') {
+                continue;
+            }
+            String text = commands.substring(0, end);
+            Told.same("behind " + text, plantToldBy(called(plant, text)),
+                    plantToldBy(played(plant, text)));
+            Told.same("later than " + text, plantToldBy(later(called(plant, text))),
+                    plantToldBy(later(played(plant, text))));
+        }
+    }
+
+    private static BatchCellars played(Supplier<BatchCellars> plant, String text) {
+        BatchCellars x = plant.get();
+        Due.retype(x, text);
+        due("play() of " + text, x.play() >= 0 ? 1 : 0, 1);
+        return x;
+    }
+
+    private static BatchCellars called(Supplier<BatchCellars> plant, String text) {
+        BatchCellars x = plant.get();
+        Due.retype(x, text);
+        for (String command : text.split(";")) {
+            int answer = command.isEmpty() ? 0 : call(x, command + ";");
+            due("the call of " + command, answer >= 0 ? 1 : 0, 1);
+        }
+        return x;
+    }
+
+    private static BatchCellars later(BatchCellars x) {
+        x.set(0, 100);
+        for (int batch = 0; batch < 6; batch++) {
+            x.blend(batch, 1);
+            x.blend(batch, 9);
+            x.move(batch, x.quickest(batch, 0));
+        }
+        x.pass(500);
+        for (int batch = 0; batch < 6; batch++) {
+            x.move(batch, x.quickest(batch, 0));
+            x.end(batch);
         }
         return x;
     }
@@ -451,6 +480,11 @@ final class TextEdges extends Edges {
         due("a change", z.count(11), 1);
         due("undone", z.undo(), 0);
         due("the time", z.count(4), 0);
+    }
+
+    private static void playDoesAsCalls() {
+        by("Promise 27", "Does all commands of the text, which stays.");
+        asByCalls(ChangeEdges::plant, "m0,2;e1;o2,9;b0,100,1;b1,50,4;t4;o2,1;b1,7,0;x3;t14;x0;m1,2;");
     }
 
     private static void playAsOneChange() {

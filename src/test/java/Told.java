@@ -13,6 +13,8 @@ final class Told {
         for (int what = 0; what < 34; what++) {
             row[n++] = what == 11 ? 0 : x.count(what);
         }
+        row[n++] = x.fault(0);
+        row[n++] = x.fault(1);
         for (int i = 0; i < 4; i++) {
             for (int stage = 0; stage < 4; stage++) {
                 for (int what = 0; what < 5; what++) {
