@@ -143,8 +143,10 @@ public final class TextsTest {
         Due.due("25: no changes", x.count(11), 0);
     }
 
-    private static void dueFault(BatchCellars x, String text, int place, int reason) {
-        Due.retype(x, text);
+    /** Of a new object each time: one is used for 512 calls at most. */
+    private static void dueFault(String text, int place, int reason) {
+        BatchCellars x = plant();
+        Due.type(x, text);
         Due.due("26: place in " + text, x.fault(0), place);
         Due.due("26: reason in " + text, x.fault(1), reason);
         Due.due("26: what -1", x.fault(-1), BAD);
@@ -160,63 +162,61 @@ public final class TextsTest {
     }
 
     private static void forms() {
-        BatchCellars x = plant();
         String[] ill = {";", " ", " t1;", "t", "t;", "t1", "t 1;", "t1 ;", "t1,;", "t1,2;", "t-1;",
             "t+1;", "T1;", "q1;", "1;", "b", "b0", "b0;", "b0,", "b0,9", "b0,9;", "b0,9,", "b0,9,0",
             "b,9,0;", "b0,,0;", "b0,9,;", "b0;9;0;", "b0.9.0;", "b0,9,0,;", "b0,9,0,0;", "m0;",
             "m0,1", "m,1;", "m0,1,2;", "e;", "e0", "e0,0;", "x;", "x0", "x0,0;", "o0;", "o0,", "o0,1",
             "o0,1,1;", "o,1;", "v0;", "~", "t1:", "t/;", "bb0,9,0;"};
         for (String text : ill) {
-            dueFault(x, text, 0, 1);
-            dueFault(x, "t1;" + text, 3, 1);
-            dueFault(x, "t1;b0,9,0;" + text + "t1;", 10, 1);
+            dueFault(text, 0, 1);
+            dueFault("t1;" + text, 3, 1);
+            dueFault("t1;b0,9,0;" + text + "t1;", 10, 1);
         }
-        dueFault(x, "t1;;", 3, 1);
-        dueFault(x, "t1;t1", 3, 1);
-        dueFault(x, "t1;t1; ", 6, 1);
+        dueFault("t1;;", 3, 1);
+        dueFault("t1;t1", 3, 1);
+        dueFault("t1;t1; ", 6, 1);
     }
 
     private static void numbers() {
+        dueFault("t1;", NONE, NONE);
+        dueFault("t001;", NONE, NONE);
+        dueFault("t0001;", 0, 1);
+        dueFault("t999;", NONE, NONE);
+        dueFault("t1000;", 0, 1);
+        dueFault("b000,099,001;", NONE, NONE);
+        dueFault("b0000,99,1;", 0, 1);
+        dueFault("b0,0099,1;", 0, 1);
+        dueFault("b0,99,0001;", 0, 1);
+        dueFault("t010;t09;", NONE, NONE);
         BatchCellars x = plant();
-        dueFault(x, "t1;", NONE, NONE);
-        dueFault(x, "t001;", NONE, NONE);
-        dueFault(x, "t0001;", 0, 1);
-        dueFault(x, "t999;", NONE, NONE);
-        dueFault(x, "t1000;", 0, 1);
-        dueFault(x, "b000,099,001;", NONE, NONE);
-        dueFault(x, "b0000,99,1;", 0, 1);
-        dueFault(x, "b0,0099,1;", 0, 1);
-        dueFault(x, "b0,99,0001;", 0, 1);
-        dueFault(x, "t010;t09;", NONE, NONE);
-        Due.retype(x, "t010;t09;t200;");
+        Due.type(x, "t010;t09;t200;");
         x.play();
         Due.due("27: the minutes", x.count(4), 219);
     }
 
     private static void reasons() {
-        BatchCellars x = plant();
-        dueFault(x, "t0;", 0, 2);
-        dueFault(x, "t000;", 0, 2);
-        dueFault(x, "b2,9,0;", 0, 2);
-        dueFault(x, "b0,0,0;", 0, 2);
-        dueFault(x, "b0,9,3;", 0, 2);
-        dueFault(x, "b0,9,999;", 0, 2);
-        dueFault(x, "m0,0;", 0, 2);
-        dueFault(x, "e0;", 0, 2);
-        dueFault(x, "x0;", 0, 2);
-        dueFault(x, "x6;", 0, 2);
-        dueFault(x, "o0,1;", 0, 2);
-        dueFault(x, "b0,9,0;o0,0;", 7, 2);
-        dueFault(x, "b0,9,0;m0,3;", 7, 2);
-        dueFault(x, "b0,9,0;m0,2;", 7, 3);
-        dueFault(x, "b0,9,2;", 0, 3);
-        dueFault(x, "b0,100,0;", 0, 3);
-        dueFault(x, "b0,9,0;b0,9,0;", 7, 3);
-        dueFault(x, "b0,9,0;e0;", 7, 3);
-        dueFault(x, "b0,9,0;o0,1;", 7, 3);
-        dueFault(x, "b0,9,0;x0;x0;", 10, 2);
-        dueFault(x, "b1,9,0;t5;m0,2;m0,1;", 15, 3);
-        dueFault(x, "b1,9,0;t5;m0,2;t6;e0;", NONE, NONE);
+        dueFault("t0;", 0, 2);
+        dueFault("t000;", 0, 2);
+        dueFault("b2,9,0;", 0, 2);
+        dueFault("b0,0,0;", 0, 2);
+        dueFault("b0,9,3;", 0, 2);
+        dueFault("b0,9,999;", 0, 2);
+        dueFault("m0,0;", 0, 2);
+        dueFault("e0;", 0, 2);
+        dueFault("x0;", 0, 2);
+        dueFault("x6;", 0, 2);
+        dueFault("o0,1;", 0, 2);
+        dueFault("b0,9,0;o0,0;", 7, 2);
+        dueFault("b0,9,0;m0,3;", 7, 2);
+        dueFault("b0,9,0;m0,2;", 7, 3);
+        dueFault("b0,9,2;", 0, 3);
+        dueFault("b0,100,0;", 0, 3);
+        dueFault("b0,9,0;b0,9,0;", 7, 3);
+        dueFault("b0,9,0;e0;", 7, 3);
+        dueFault("b0,9,0;o0,1;", 7, 3);
+        dueFault("b0,9,0;x0;x0;", 10, 2);
+        dueFault("b1,9,0;t5;m0,2;m0,1;", 15, 3);
+        dueFault("b1,9,0;t5;m0,2;t6;e0;", NONE, NONE);
         BatchCellars y = new BatchCellars();
         for (int i = 0; i < 30; i++) {
             y.pass(999);
@@ -228,13 +228,13 @@ public final class TextsTest {
     }
 
     private static void firstFault() {
+        dueFault("t0;q;", 0, 2);
+        dueFault("e0;t1", 0, 2);
+        dueFault("b0,9,0;e0;;", 7, 3);
+        dueFault("b0,9,0;t5;e0;e0;", 13, 2);
+        dueFault("b0,9,0;t5;e0;b0,9,0;m0,1;", 20, 3);
         BatchCellars x = plant();
-        dueFault(x, "t0;q;", 0, 2);
-        dueFault(x, "e0;t1", 0, 2);
-        dueFault(x, "b0,9,0;e0;;", 7, 3);
-        dueFault(x, "b0,9,0;t5;e0;e0;", 13, 2);
-        dueFault(x, "b0,9,0;t5;e0;b0,9,0;m0,1;", 20, 3);
-        Due.retype(x, "b0,9,0;");
+        Due.type(x, "b0,9,0;");
         Due.due("26: possible", x.fault(0), NONE);
         x.begin(0, 5, 0);
         Due.due("26: no more", x.fault(1), 3);
@@ -249,8 +249,8 @@ public final class TextsTest {
         for (int i = 0; i < 20; i++) {
             full.append("t01;");
         }
-        dueFault(x, full.toString(), NONE, NONE);
-        dueFault(x, full.substring(0, 77) + "t1;", 76, 1);
+        dueFault(full.toString(), NONE, NONE);
+        dueFault(full.substring(0, 77) + "t1;", 76, 1);
     }
 
     private static void playing() {
